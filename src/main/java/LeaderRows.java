@@ -200,7 +200,7 @@ public final class LeaderRows {
     }
 
     public int check() {
-        int unlike = row.firstUnlike(claimed, claims);
+        int unlike = firstUnlike();
         claims = 0;
         return unlike;
     }
@@ -355,6 +355,16 @@ public final class LeaderRows {
         }
     }
 
+    private int firstUnlike() {
+        int both = Math.min(claims, row.length);
+        for (int k = 0; k < both; k++) {
+            if (claimed[k] != row.leaders[k]) {
+                return k;
+            }
+        }
+        return claims == row.length ? NONE : both;
+    }
+
     private static final class Node {
         int weight;
         long deposit;
@@ -466,16 +476,6 @@ public final class LeaderRows {
 
         int numbersOf(int k) {
             return has(k) ? numbers[k] : NONE;
-        }
-
-        int firstUnlike(int[] others, int count) {
-            int both = Math.min(length, count);
-            for (int k = 0; k < both; k++) {
-                if (leaders[k] != others[k]) {
-                    return k;
-                }
-            }
-            return length == count ? NONE : both;
         }
     }
 

@@ -436,28 +436,28 @@ public final class PromisesTest {
     }
 
     private static void withholders() {
-        LeaderRows x = with(1, 10, 2, 20, 3, 30);
-        x.deposit(1, 99 - 1000);
-        x.deposit(2, MOST - 1000);
+        LeaderRows x = with(0, 10, 11, 20, 3, 30);
+        x.deposit(0, 99 - 1000);
+        x.deposit(11, MOST - 1000);
         x.term(1, 33);
         x.term(2, 20);
         x.begin();
-        x.commit(1, 0);
-        x.commit(2, 0);
+        x.commit(0, 0);
+        x.commit(11, 0);
         x.opening();
         due("draw(2) with two that withhold", x.draw(2), 1);
         due("told(4)", x.told(4), 30);
-        due("amount(3), cut off", x.amount(3), 99 - 32);
-        due("amount(4)", x.amount(4), MOST - 330_000_000_000L);
+        due("amount(2), cut off", x.amount(2), 99 - 32);
+        due("amount(13)", x.amount(13), MOST - 330_000_000_000L);
         due("amount(5), did not commit", x.amount(5), 1000);
         due("amount(1)", x.amount(1), 330_000_000_032L);
-        due("node(1, 4)", x.node(1, 4), 21);
-        due("node(2, 4)", x.node(2, 4), 21);
+        due("node(0, 4)", x.node(0, 4), 21);
+        due("node(11, 4)", x.node(11, 4), 21);
         due("node(3, 4)", x.node(3, 4), 0);
-        due("node(1, 5) in phase 3", x.node(1, 5), 1);
-        due("node(1, 6) in phase 3", x.node(1, 6), 1);
-        due("node(1, 7) in phase 3", x.node(1, 7), 0);
-        due("node(1, 1), its wait stays", x.node(1, 1), 0);
+        due("node(0, 5) in phase 3", x.node(0, 5), 1);
+        due("node(0, 6) in phase 3", x.node(0, 6), 1);
+        due("node(0, 7) in phase 3", x.node(0, 7), 0);
+        due("node(0, 1), its wait stays", x.node(0, 1), 0);
         allOfIt();
         noneOfIt();
     }
