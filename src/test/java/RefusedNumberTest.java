@@ -8,6 +8,7 @@ public final class RefusedNumberTest {
     private static final Expect EXPECT = new Expect();
 
     public static void main(String[] args) {
+        EXPECT.sentence("Promise 9", "z is not used, if it is not below the greatest multiple of W that is 2^64 at most");
         row("far inside", 43291, 470222127, 11949, 49, 2);
         row("far inside", 6759, 598331079, 11949, 29, 2);
         row("z is the bound itself", 43291, 470222127, 8196, 49, 2);
@@ -16,6 +17,7 @@ public final class RefusedNumberTest {
         row("z is one below the bound", 6759, 598331079, 11976, 29, 1);
         row("the bound is 2^64", 43291, 470222127, 8192, 49, 1);
         row("the bound is 2^64", 6759, 598331079, 2, 29, 1);
+        EXPECT.sentence("Promise 9", "the next one is drawn");
         leadersBehindIt();
         EXPECT.finish();
     }
