@@ -143,7 +143,7 @@ public final class LeaderRows {
             return NOT;
         }
         seed = seedOfDraw(NONE, 0);
-        gatherElectors(NONE, seed);
+        electors.gather(nodes, NONE, terms[FACTOR], seed);
         fineWithholders();
         row.clear(electors.sum);
         if (electors.count == 0) {
@@ -219,7 +219,7 @@ public final class LeaderRows {
             return NOT;
         }
         int opener = opens ? node : NONE;
-        gatherElectors(opener, seedOfDraw(opener, number));
+        electors.gather(nodes, opener, terms[FACTOR], seedOfDraw(opener, number));
         int leads = 0;
         for (int k = 0; k < turns; k++) {
             if (electors.nextLeader() == node) {
@@ -320,16 +320,6 @@ public final class LeaderRows {
             }
         }
         return s;
-    }
-
-    /** Makes ready for a ROW drawn now, as if the opener (NONE: nobody) had OPENED too. */
-    private void gatherElectors(int opener, long stream) {
-        electors.clear(stream, terms[FACTOR]);
-        for (int i = 0; i < NODES; i++) {
-            Node one = nodes[i];
-            boolean elects = one.member && (!one.withholds() || i == opener);
-            electors.put(i, elects ? one.weight : 0, one.wait);
-        }
     }
 
     private void fineWithholders() {
@@ -494,19 +484,21 @@ public final class LeaderRows {
         /** How many were drawn for the latest TURN. */
         int numbers;
 
-        void clear(long streamAhead, int factorNow) {
+        /** Makes ready for a ROW drawn now, as if the opener (NONE: nobody) had OPENED too. */
+        void gather(Node[] nodes, int opener, int factorNow, long streamAhead) {
             count = 0;
             sum = 0;
-            stream = streamAhead;
             factor = factorNow;
-        }
-
-        void put(int i, int weight, int wait) {
-            weights[i] = weight;
-            waits[i] = wait;
-            sum += weight;
-            if (weight > 0) {
-                count++;
+            stream = streamAhead;
+            for (int i = 0; i < NODES; i++) {
+                Node one = nodes[i];
+                boolean elects = one.member && (!one.withholds() || i == opener);
+                weights[i] = elects ? one.weight : 0;
+                waits[i] = one.wait;
+                sum += weights[i];
+                if (elects) {
+                    count++;
+                }
             }
         }
 

@@ -1,3 +1,8 @@
+import java.util.ArrayList;
+import java.util.HashSet;
+import java.util.List;
+import java.util.Set;
+
 /** Promises 11 to 20, sentence by sentence, each bound from both sides. */
 public final class AskingSentencesTest {
     private static final int BAD = Scenes.BAD, NONE = Scenes.NONE, NOT = Scenes.NOT;
@@ -17,11 +22,15 @@ public final class AskingSentencesTest {
         promise14WhichIsEmptyThen();
         promise14TheLatestRow();
         promise15OfSoMany();
+        promise15InPhase2();
+        promise15BadInEachPhase();
+        promise15IfItOpened();
         promise15IfItOpenedOrDidNot();
         promise15AllOthersAsTheyAreNow();
         promise15NothingChanges();
         promise15Not();
         promise16HowManyCouldStillOpen();
+        promise16RowsToChooseFrom();
         promise16InOtherPhases();
         promise17TheDigestWraps();
         promise17NoSuchNode();
@@ -113,7 +122,7 @@ public final class AskingSentencesTest {
     }
 
     private static void promise11And12ThereWasNone() {
-        EXPECT.sentence("Promise 11", "there was none");
+        EXPECT.sentence("Promise 11", "NONE: it has not so many, there was none");
         LeaderRows x = Scenes.with(7, 1);
         for (int phase = 0; phase <= 2; phase++) {
             due("leader(0) in phase " + phase, x.leader(0), NONE);
@@ -343,6 +352,55 @@ public final class AskingSentencesTest {
         due("would(7, 1, true, 1), alone", alone.would(7, 1, true, 1), 1);
     }
 
+    private static void promise15InPhase2() {
+        EXPECT.sentence("Promise 15", "In PHASE 2");
+        LeaderRows x = Scenes.with(3, 5);
+        for (int epoch = 1; epoch <= 2; epoch++) {
+            due("would(3, 6, true, 9) in phase 0", x.would(3, 6, true, 9), NOT);
+            x.begin();
+            x.commit(3, x.digest(3, 6));
+            due("would(3, 6, true, 9) in phase 1", x.would(3, 6, true, 9), NOT);
+            x.opening();
+            due("would(3, 6, true, 9) in phase 2", x.would(3, 6, true, 9), 9);
+            x.open(3, 6);
+            x.draw(1);
+            due("would(3, 6, true, 9) in phase 3", x.would(3, 6, true, 9), NOT);
+            x.turn(true);
+        }
+    }
+
+    private static void promise15BadInEachPhase() {
+        EXPECT.sentence("Promise 15", "BAD");
+        LeaderRows x = Scenes.with(3, 5);
+        for (int phase = 0; phase <= 3; phase++) {
+            due("told(0)", x.told(0), phase);
+            for (boolean opens : new boolean[] {true, false}) {
+                due("would(12, 6, " + opens + ", 9) in phase " + phase, x.would(12, 6, opens, 9), BAD);
+                due("would(-1, 6, " + opens + ", 9) in phase " + phase, x.would(-1, 6, opens, 9), BAD);
+                due("would(3, 6, " + opens + ", 0) in phase " + phase, x.would(3, 6, opens, 0), BAD);
+                due("would(3, 6, " + opens + ", 61) in phase " + phase, x.would(3, 6, opens, 61), BAD);
+            }
+            if (phase == 0) {
+                x.begin();
+            } else if (phase == 1) {
+                x.opening();
+            } else {
+                x.draw(1);
+            }
+        }
+    }
+
+    private static void promise15IfItOpened() {
+        EXPECT.sentence("Promise 15", "that was drawn now a node would lead, if it OPENED a NUMBER ahead of that");
+        for (int node : new int[] {4, 7, 11}) {
+            LeaderRows x = opened();
+            int would = x.would(node, 100 + node, true, 50);
+            x.open(node, 100 + node);
+            x.draw(50);
+            due("would(" + node + ", .., true, 50)", would, leads(x, node));
+        }
+    }
+
     private static void promise15IfItOpenedOrDidNot() {
         EXPECT.sentence("Promise 15", "or (not opens) did not");
         LeaderRows x = opened(4, 11);
@@ -455,6 +513,40 @@ public final class AskingSentencesTest {
             some.opening();
             due("choices() of " + many + " that did not open", some.choices(), many);
         }
+    }
+
+    /** Each set of those that could still OPEN brings a SEED, and a ROW, of its own. */
+    private static void promise16RowsToChooseFrom() {
+        EXPECT.sentence("Promise 16", "the rows that withholding can choose from are 2 to that");
+        for (int many = 0; many <= 12; many++) {
+            Set<List<Long>> rows = new HashSet<>();
+            for (int openers = 0; openers < 1 << many; openers++) {
+                LeaderRows x = Scenes.twelve(1);
+                x.begin();
+                for (int node = 0; node < many; node++) {
+                    x.commit(node, x.digest(node, node));
+                }
+                x.opening();
+                due("choices()", x.choices(), many);
+                for (int node = 0; node < many; node++) {
+                    if ((openers >> node & 1) == 1) {
+                        x.open(node, node);
+                    }
+                }
+                x.draw(60);
+                rows.add(rowOf(x));
+            }
+            due("rows with choices() " + many, rows.size(), 1 << many);
+        }
+    }
+
+    private static List<Long> rowOf(LeaderRows x) {
+        List<Long> row = new ArrayList<>();
+        row.add(x.amount(0));
+        for (int k = 0; k < x.told(2); k++) {
+            row.add((long) x.leader(k));
+        }
+        return row;
     }
 
     private static void promise16InOtherPhases() {
@@ -593,7 +685,7 @@ public final class AskingSentencesTest {
     // ---- 19
 
     private static void promise19EachOfTheWhole() {
-        EXPECT.sentence("Promise 19", "0 the SEED, 1 the POT, 2 .. 13 the DEPOSIT of node what - 2");
+        EXPECT.sentence("Promise 19", "Of the whole: 0 the SEED, 1 the POT, 2 .. 13 the DEPOSIT of node what - 2");
         LeaderRows x = new LeaderRows();
         for (int node = 0; node < 12; node++) {
             x.deposit(node, node == 11 ? MOST : 50 + node);

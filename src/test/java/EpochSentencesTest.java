@@ -27,6 +27,7 @@ public final class EpochSentencesTest {
         promise8DidNotCommitOrDidOpen();
         promise8NotInPhase2();
         promise9SoManyTurns1To60();
+        promise9BadInEachPhase();
         promise9HowManyElectors();
         promise9WithholdersAreThose();
         promise9HundredthsCutOff();
@@ -37,6 +38,7 @@ public final class EpochSentencesTest {
         promise9NoElector();
         promise9NotInPhase2();
         promise10HowManyAreStillToCome();
+        promise10TheNextIsDoneOrMissed();
         promise10InOrder();
         promise10LedOrMissed();
         promise10PatienceOfItsOwn();
@@ -420,9 +422,27 @@ public final class EpochSentencesTest {
         }
     }
 
+    private static void promise9BadInEachPhase() {
+        EXPECT.sentence("Promise 9", "BAD");
+        LeaderRows x = Scenes.with(3, 5);
+        for (int phase = 0; phase <= 3; phase++) {
+            due("told(0)", x.told(0), phase);
+            due("draw(0) in phase " + phase, x.draw(0), BAD);
+            due("draw(61) in phase " + phase, x.draw(61), BAD);
+            due("told(0) behind it", x.told(0), phase);
+            if (phase == 0) {
+                x.begin();
+            } else if (phase == 1) {
+                x.opening();
+            } else {
+                x.draw(1);
+            }
+        }
+    }
+
     private static void promise9HowManyElectors() {
-        EXPECT.sentence("Promise 9", "W is the sum of their WEIGHTS");
         for (int withhold = 0; withhold <= 12; withhold++) {
+            EXPECT.sentence("Promise 9", "how many ELECTORS");
             LeaderRows x = Scenes.twelve(1000);
             x.begin();
             for (int node = 0; node < withhold; node++) {
@@ -430,6 +450,7 @@ public final class EpochSentencesTest {
             }
             x.opening();
             due("draw(5), " + withhold + " withhold", x.draw(5), 12 - withhold);
+            EXPECT.sentence("Promise 9", "W is the sum of their WEIGHTS");
             due("told(4)", x.told(4), 1000 * (12 - withhold));
             due("told(2)", x.told(2), withhold == 12 ? 0 : 5);
             due("told(0)", x.told(0), withhold == 12 ? 0 : 3);
@@ -643,6 +664,20 @@ public final class EpochSentencesTest {
             due("turn(" + done + ")", x.turn(done), 0);
             due("told(0)", x.told(0), 0);
             due("node(3, 5)", x.node(3, 5), 0);
+        }
+    }
+
+    private static void promise10TheNextIsDoneOrMissed() {
+        EXPECT.sentence("Promise 10", "The next TURN is done or missed");
+        for (int dones = 0; dones < 8; dones++) {
+            LeaderRows x = Scenes.with(3, 5);
+            Scenes.drawWithout(x, 3);
+            for (int k = 0; k < 3; k++) {
+                due("told(3)", x.told(3), k);
+                x.turn((dones >> k & 1) == 1);
+            }
+            due("node(3, 2), " + dones, x.node(3, 2), Integer.bitCount(dones));
+            due("node(3, 3), " + dones, x.node(3, 3), 3 - Integer.bitCount(dones));
         }
     }
 

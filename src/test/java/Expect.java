@@ -1,32 +1,42 @@
-import java.util.LinkedHashSet;
-import java.util.Set;
+import java.util.LinkedHashMap;
+import java.util.Map;
 
 /** Counts the answers that are not as due, and prints each, with the sentence that it is held against. */
 final class Expect {
-    private final Set<String> sentences = new LinkedHashSet<>();
-    private String sentence = "";
+    /** Words of the document, and in which section a test looks for them. */
+    record Sentence(String where, String words) {
+    }
+
+    /** What all tests in this JVM have named, with how many answers were held against it. */
+    private static final Map<Sentence, Integer> HELD = new LinkedHashMap<>();
+
+    private final Map<Sentence, Integer> sentences = new LinkedHashMap<>();
+    private Sentence sentence;
     private int asked;
     private int wrong;
 
+    static Map<Sentence, Integer> held() {
+        return HELD;
+    }
+
     /** Which words of the document the next answers are held against. */
     void sentence(String where, String words) {
-        sentence = where + ", \"" + words + "\": ";
-        sentences.add(sentence);
+        sentence = new Sentence(where, words);
     }
 
     void due(String call, long got, long want) {
-        asked++;
+        count();
         if (got != want) {
             wrong++;
-            System.out.println(sentence + call + " answered " + got + ", due is " + want);
+            System.out.println(words() + call + " answered " + got + ", due is " + want);
         }
     }
 
     void holds(String what, boolean is) {
-        asked++;
+        count();
         if (!is) {
             wrong++;
-            System.out.println(sentence + "does not hold: " + what);
+            System.out.println(words() + "does not hold: " + what);
         }
     }
 
@@ -34,11 +44,23 @@ final class Expect {
         return wrong == 0;
     }
 
-    /** Promises FROM to TO have each a sentence that was asked for. */
+    private void count() {
+        asked++;
+        if (sentence != null) {
+            sentences.merge(sentence, 1, Integer::sum);
+            HELD.merge(sentence, 1, Integer::sum);
+        }
+    }
+
+    private String words() {
+        return sentence == null ? "" : sentence.where() + ", \"" + sentence.words() + "\": ";
+    }
+
+    /** Promises FROM to TO have each a sentence that answers were held against. */
     void eachPromise(int from, int to) {
         for (int promise = from; promise <= to; promise++) {
-            String where = "Promise " + promise + ", ";
-            holds("a sentence of promise " + promise + " is tested", sentences.stream().anyMatch(s -> s.startsWith(where)));
+            String where = "Promise " + promise;
+            holds("a sentence of promise " + promise + " is tested", sentences.keySet().stream().anyMatch(s -> s.where().equals(where)));
         }
     }
 

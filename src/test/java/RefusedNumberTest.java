@@ -1,8 +1,9 @@
 /**
  * Draws in which a number is not used, as it would make some leaders likelier than others. Chance
  * brings one in some 10^15 draws; the numbers here were sought so that one comes among the first
- * sixty, at z = 2^64 - 7684 and at z = 2^64 - 1529. WEIGHTS do not change the SEED, so that the
- * sum of them can be set to have its bound just there.
+ * sixty, at z = 2^64 - 7684 and at z = 2^64 - 1529; others, so that z is the least, the greatest, or
+ * one of the two in the middle. WEIGHTS do not change the SEED, so that the sum of them can be set
+ * to have its bound just there.
  */
 public final class RefusedNumberTest {
     private static final Expect EXPECT = new Expect();
@@ -17,6 +18,7 @@ public final class RefusedNumberTest {
         row("z is one below the bound", 6759, 598331079, 11976, 29, 1);
         row("the bound is 2^64", 43291, 470222127, 8192, 49, 1);
         row("the bound is 2^64", 6759, 598331079, 2, 29, 1);
+        leastAndGreatest();
         EXPECT.sentence("Promise 9", "the next one is drawn");
         leadersBehindIt();
         EXPECT.finish();
@@ -70,6 +72,33 @@ public final class RefusedNumberTest {
             EXPECT.due(run + "drawn(" + k + ")", x.drawn(k), k == turn ? numbers : 1);
             EXPECT.due(run + "leader(" + k + ")", x.leader(k), m.leader(k));
         }
+    }
+
+    /** z is 0, 2^63 - 1, 2^63 or 2^64 - 1: the last one is used only if W divides 2^64. */
+    private static void leastAndGreatest() {
+        EXPECT.sentence("Promise 9", "taken as a number 0 .. 2^64 - 1");
+        for (int sum : new int[] {2, 3, 1024, 1997, 8192, 11949, 12000}) {
+            int ofGreatest = Integer.bitCount(sum) == 1 ? 1 : 2;
+            row("z is 0", 147556070, 546094471, sum, 35, 1);
+            row("z is 0", 190184212, 246553474, sum, 17, 1);
+            row("z is 2^63 - 1", 469363118, 547978796, sum, 22, 1);
+            row("z is 2^63", 38024377, 23142846, sum, 21, 1);
+            row("z is 2^64 - 1", 358433626, 1017977229, sum, 22, ofGreatest);
+            row("z is 2^64 - 1", 560563248, 848331865, sum, 23, ofGreatest);
+        }
+        EXPECT.sentence("Promise 9", "r is z modulo W");
+        dueLeader("z is 0", 147556070, 546094471, 35, 0);
+        dueLeader("z is 2^63 - 1", 469363118, 547978796, 22, 8);
+        dueLeader("z is 2^63", 38024377, 23142846, 21, 0);
+        dueLeader("z is 2^64 - 1", 358433626, 1017977229, 22, 8);
+    }
+
+    /** Eight nodes of 1000 and one of 192 are 8192 = 2^13: r is z's last 13 bits, 0 or 8191. */
+    private static void dueLeader(String what, long first, long second, int turn, int who) {
+        LeaderRows x = committed(first, second, 8192);
+        x.open(1, second);
+        x.draw(60);
+        EXPECT.due(what + ": leader(" + turn + ")", x.leader(turn), who);
     }
 
     /** Reckoned outside this program: eleven nodes of 1000 and one of 949. */

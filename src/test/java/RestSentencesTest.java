@@ -14,6 +14,7 @@ public final class RestSentencesTest {
         promise1ThereWasNoRow();
         promise2WeightsAre0To1000();
         promise2NodesAre0To11();
+        promise2BadInEachPhase();
         promise2WhichItHad();
         promise2NotInPhase0();
         promise3DepositsAre0To10Power12();
@@ -23,6 +24,7 @@ public final class RestSentencesTest {
         promise3NotInPhase0();
         promise4EachTermHasItsBounds();
         promise4TermsAre0To3();
+        promise4BadInEachPhase();
         promise4WhichItWas();
         promise4NotInPhase0();
         EXPECT.eachPromise(1, 4);
@@ -150,6 +152,18 @@ public final class RestSentencesTest {
         }
         for (int node = 0; node < 12; node++) {
             due("node(" + node + ", 0)", x.node(node, 0), 100 + node);
+        }
+    }
+
+    private static void promise2BadInEachPhase() {
+        EXPECT.sentence("Promise 2", "BAD");
+        for (int phase = 0; phase <= 3; phase++) {
+            LeaderRows x = inPhase(phase);
+            due("weight(12, 5) in phase " + phase, x.weight(12, 5), BAD);
+            due("weight(-1, 5) in phase " + phase, x.weight(-1, 5), BAD);
+            due("weight(3, 1001) in phase " + phase, x.weight(3, 1001), BAD);
+            due("weight(3, -1) in phase " + phase, x.weight(3, -1), BAD);
+            due("node(3, 0)", x.node(3, 0), 5);
         }
     }
 
@@ -293,6 +307,19 @@ public final class RestSentencesTest {
         int[] first = {3, 10, 2, 3};
         for (int what = 0; what < 4; what++) {
             due("told(" + (5 + what) + ")", x.told(5 + what), first[what]);
+        }
+    }
+
+    private static void promise4BadInEachPhase() {
+        EXPECT.sentence("Promise 4", "BAD");
+        for (int phase = 0; phase <= 3; phase++) {
+            LeaderRows x = inPhase(phase);
+            due("term(4, 5) in phase " + phase, x.term(4, 5), BAD);
+            due("term(-1, 5) in phase " + phase, x.term(-1, 5), BAD);
+            due("term(0, 101) in phase " + phase, x.term(0, 101), BAD);
+            due("term(3, 0) in phase " + phase, x.term(3, 0), BAD);
+            due("told(5)", x.told(5), 3);
+            due("told(8)", x.told(8), 3);
         }
     }
 

@@ -39,6 +39,9 @@ public final class RowSentencesTest {
         promise9WaitTimesWeightIsFactorTimesW();
         promise9FactorOf100();
         promise9TheGreatestOfSeveralTheLeast();
+        promise9OnlyElectorsAreOverdue();
+        promise9TheStreamBeginsAtTheSeed();
+        promise9RIsZModuloW();
         promise9ItsWaitIs0();
         promise9OnlyElectorsWait();
         promise9TheFirstElectorWhoseSumIsAbove();
@@ -174,7 +177,7 @@ public final class RowSentencesTest {
     // ---- sentence by sentence
 
     private static void promise9FactorIsAbove0() {
-        EXPECT.sentence("Promise 9", "if FACTOR is above 0");
+        EXPECT.sentence("Promise 9", "an ELECTOR is OVERDUE, if FACTOR is above 0");
         for (int factor = 0; factor <= 1; factor++) {
             LeaderRows x = Scenes.with(0, 1, 1, 1);
             x.term(0, factor);
@@ -230,7 +233,7 @@ public final class RowSentencesTest {
     }
 
     private static void promise9TheGreatestOfSeveralTheLeast() {
-        EXPECT.sentence("Promise 9", "of several the least, leads");
+        EXPECT.sentence("Promise 9", "If some are, the one with the greatest WAIT times WEIGHT, of several the least, leads");
         LeaderRows x = Scenes.twelve(1);
         x.term(0, 1);
         Scenes.drawWithout(x, 60);
@@ -266,6 +269,70 @@ public final class RowSentencesTest {
             due("leader(1), the least of the others", y.leader(1), heavy == 0 ? 1 : 0);
             due("leader(2)", y.leader(2), heavy == 2 ? 1 : 2);
             due("drawn(2)", y.drawn(2), 0);
+        }
+    }
+
+    /** Node 2 waited long; it leads by WAIT as an ELECTOR, and not when it withholds or has no WEIGHT. */
+    private static void promise9OnlyElectorsAreOverdue() {
+        EXPECT.sentence("Promise 9", "an ELECTOR is OVERDUE");
+        for (int how = 0; how < 3; how++) {
+            LeaderRows x = Scenes.with(2, 1, 5, 1000);
+            x.term(0, 0);
+            Scenes.drawWithout(x, 30);
+            while (x.told(0) == 3) {
+                x.turn(true);
+            }
+            due("node(2, 1)", x.node(2, 1), 30);
+            x.weight(2, how == 2 ? 0 : 1000);
+            x.weight(5, 1);
+            x.term(0, 3);
+            x.begin();
+            x.commit(how == 1 ? 2 : 5, x.digest(5, 8));
+            x.opening();
+            x.open(5, 8);
+            due("draw(1)", x.draw(1), how == 0 ? 2 : 1);
+            due("leader(0)", x.leader(0), how == 0 ? 2 : 5);
+            due("drawn(0)", x.drawn(0), how == 0 ? 0 : 1);
+        }
+    }
+
+    private static BigInteger zOf(LeaderRows x, int draws) {
+        BigInteger from = BigInteger.valueOf(x.amount(0)).mod(TWO_64);
+        return mix(from.add(G.multiply(BigInteger.valueOf(draws))).mod(TWO_64));
+    }
+
+    /** Two of WEIGHT 1: node 8 leads if z is odd. TURNS by WAIT take nothing from STREAM, and each ROW has its own. */
+    private static void promise9TheStreamBeginsAtTheSeed() {
+        EXPECT.sentence("Promise 9", "Else numbers are drawn: STREAM (the SEED, ahead of the first draw of this ROW)");
+        for (int factor = 0; factor <= 1; factor++) {
+            LeaderRows x = Scenes.with(4, 1, 8, 1);
+            x.term(0, factor);
+            for (int epoch = 1; epoch <= 5; epoch++) {
+                Scenes.drawWithout(x, 12);
+                int draws = 0;
+                for (int k = 0; k < 12; k++) {
+                    draws += x.drawn(k);
+                    if (x.drawn(k) > 0) {
+                        due("leader(" + k + ") by draw " + draws, x.leader(k), zOf(x, draws).testBit(0) ? 8 : 4);
+                    }
+                    x.turn(true);
+                }
+                EXPECT.holds("draws " + draws + ", factor " + factor, factor == 0 ? draws == 12 : draws < 12);
+            }
+        }
+    }
+
+    /** Twelve alike, so that r over the WEIGHT of one is the leader. */
+    private static void promise9RIsZModuloW() {
+        EXPECT.sentence("Promise 9", "r is z modulo W");
+        for (int weight : new int[] {1, 2, 7, 83, 500, 999, 1000}) {
+            LeaderRows x = Scenes.twelve(weight);
+            x.term(0, 0);
+            Scenes.drawWithout(x, 60);
+            for (int k = 0; k < 60; k++) {
+                int r = zOf(x, k + 1).mod(BigInteger.valueOf(12 * weight)).intValueExact();
+                due("leader(" + k + "), r " + r, x.leader(k), r / weight);
+            }
         }
     }
 
